@@ -111,7 +111,8 @@ public final class AskedTest {
         mill.feed(0, 0);
         mill.feed(1, 1);
         mill.pass(1);
-        int[][] due = {{0, 2, 5, 3, 2, -1}, {3, 1, 60, 30, 1, 1}, {1, 0, 9, 0, 0, -1}};
+        mill.feed(0, 2);
+        int[][] due = {{0, 2, 5, 3, 2, -1}, {3, 1, 60, 30, 1, 1}, {1, 0, 9, 0, 1, 0}};
         for (int lot = 0; lot < 3; lot++) {
             for (int what = 0; what <= 5; what++) {
                 Check.same("21: ofLot(" + lot + ", " + what + ")", mill.ofLot(lot, what), due[lot][what]);

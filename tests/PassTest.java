@@ -214,6 +214,33 @@ public final class PassTest {
         dull.pass(1);
         Check.same("16 (4): all of NEED is got", dull.left(0), 57.0);
         Check.same("16 (4): DULL adds up", dull.dull(0), 0.125 + 0.03125);
+        bluntGrinding();
+    }
+
+    /** A dull PAIR NEEDS more, and does less with what it gets. */
+    private static void bluntGrinding() {
+        TideMill mill = Mills.strong();
+        mill.pair();
+        mill.pass(1);
+        mill.sluice(2);
+        mill.lot(0, 0, 20, 0);
+        mill.feed(0, 0);
+        double head = mill.pond(0) + 0.5;
+        mill.pass(1);
+        double does = 2 * head * 0.25 * head / 1.125;
+        Check.same("16 (4): DOES is below 1.0", does < 1.0, true);
+        Check.same("16 (4): LEFT by NEED", mill.left(0), 20.0 - does * 4.0);
+        Check.same("16 (4): DULL by DOES", mill.dull(0), (double) (0.125f + (float) does * 1f / 64f));
+
+        TideMill dullest = Mills.flooded();
+        dullest.pair();
+        dullest.pass(8);
+        dullest.lot(0, 1, 20, 0);
+        dullest.feed(0, 0);
+        double left = dullest.left(0);
+        dullest.pass(1);
+        Check.same("16 (4): it grinds", dullest.left(0) < left, true);
+        Check.same("16 (4): DULL is 1f at most", dullest.dull(0), 1.0);
     }
 
     private static void sparking() {
@@ -243,6 +270,13 @@ public final class PassTest {
         Check.same("16 (4): its LOT is DONE, there is no SPARK yet", freed.ofPair(0, 2), 0);
         freed.pass(1);
         Check.same("16 (4): one TICK later there is", freed.ofPair(0, 2), 1);
+
+        TideMill edge = Mills.filled(36);
+        edge.pair();
+        edge.sluice(4);
+        edge.pass(1);
+        Check.same("16 (4): SEA is -0.25, and so HEAD and FORCE 1.0", edge.pond(3), 1.0);
+        Check.same("16 (4): a FORCE of 1.0 makes no SPARK", edge.many(13), 0);
 
         TideMill weak = Mills.filled(24);
         weak.pair();

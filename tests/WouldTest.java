@@ -45,6 +45,11 @@ public final class WouldTest {
             Check.same("26: wouldLevel(" + ticks + ")", mill.wouldLevel(ticks), other.pond(0));
         }
         Check.same("26: nothing is changed", Portrait.of(mill), before);
+        TideMill neap = new TideMill();
+        neap.moon(7);
+        neap.gates(1);
+        double sea = 2.25 * (7.0 / 12.0) - 2.25 * 0.5;
+        Check.same("26: the MOON is as told", neap.wouldLevel(8), sea * 0.5 / 8.0);
         Check.same("26: by hand", Mills.strong().wouldLevel(1), 0.75 - 1.25 / 7.90625);
         for (int wrong : new int[] {-1, 0, 101, LEAST, MOST}) {
             Check.raises(mill, "26: wouldLevel(" + wrong + ")", ARGUMENT, () -> mill.wouldLevel(wrong));
@@ -216,6 +221,20 @@ public final class WouldTest {
         low.pass(3);
         low.sluice(1);
         Check.same("29: digest() of a LEVEL below 0.0", low.digest(), digestOf(low));
+        TideMill watched = Mills.filled(24);
+        watched.surge(0);
+        watched.gates(2);
+        watched.pair();
+        watched.pair();
+        watched.lot(0, 0, 4, 0);
+        watched.lot(0, 1, 4, 0);
+        watched.feed(0, 0);
+        watched.feed(1, 1);
+        watched.hours(47, 0);
+        Check.same("29: best() of 23 is another", watched.best(23), 0);
+        Check.same("29: best() of 24", watched.best(24), 3);
+        Check.same("29: best() of 25 is another", watched.best(25), 2);
+        Check.same("29: digest() takes that of 24", watched.digest(), digestOf(watched));
         Check.same("29: digest() of a new mill", new TideMill().digest(), digestOf(new TideMill()));
     }
 
