@@ -26,11 +26,11 @@ final class Check {
         count(what, got.equals(due), got, due);
     }
 
-    /** The call throws just that kind, and the mill answers all questions as before. */
+    /** The call throws just that kind, and the mill answers as before (RefusedTest asks it more). */
     static void raises(TideMill mill, String what, Class<? extends RuntimeException> kind, Call call) {
-        String before = Portrait.of(mill);
+        String before = Portrait.brief(mill);
         same(what, thrownBy(call), kind.getSimpleName());
-        same(what + " changes nothing", Portrait.of(mill), before);
+        same(what + " changes nothing", Portrait.brief(mill), before);
     }
 
     static String thrownBy(Call call) {

@@ -33,6 +33,30 @@ final class Mills {
         return mill;
     }
 
+    /** As filled(), with an AGE and a SURGE that put the SEA where it is asked for. */
+    static TideMill filled(int tick, int age, int quarters) {
+        TideMill mill = filled(tick);
+        mill.moon((age + 300 - tick / 48) % 30);
+        mill.surge(quarters);
+        return mill;
+    }
+
+    /**
+     * A mill on TICK 24, LEVEL just below 0.5, so that SLUICE 4 gives the greatest FORCE below 1.0 that there is:
+     * 3 GATES at a SEA that is a bit below 8 / 3.
+     */
+    static TideMill justBelowOne() {
+        TideMill mill = at(8);
+        mill.surge(8);
+        mill.gates(3);
+        mill.pass(1);
+        mill.gates(0);
+        mill.surge(-8);
+        mill.pass(15);
+        mill.sluice(4);
+        return mill;
+    }
+
     /** As filled(24), where the SEA is below -0.5, with a SLUICE that gives FORCE 1.5625 on the next TICK. */
     static TideMill strong() {
         TideMill mill = filled(24);

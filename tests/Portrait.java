@@ -1,8 +1,9 @@
-/** All that a mill answers without being changed, as one text. */
+/** What a mill answers without being changed, as one text. */
 final class Portrait {
     private Portrait() {
     }
 
+    /** All of it: some 140 calls of a full mill. */
     static String of(TideMill mill) {
         StringBuilder text = new StringBuilder();
         for (int what = 0; what <= 16; what++) {
@@ -17,15 +18,24 @@ final class Portrait {
             text.append(mill.ofOwner(owner, true)).append(' ').append(mill.ofOwner(owner, false)).append(' ');
         }
         text.append(mill.high()).append(' ').append(mill.sea(0)).append(' ').append(mill.sea(49)).append(' ');
-        for (int ticks = 1; ticks <= 100; ticks += 9) {
+        for (int ticks : new int[] {1, 2, 25, 50, 100}) {
             text.append(mill.wouldLevel(ticks)).append(' ');
         }
         text.append(mill.best(1)).append(' ').append(mill.best(48)).append(' ').append(mill.digest());
         return text.toString();
     }
 
+    /** What six calls tell; most of it by the digest. */
+    static String brief(TideMill mill) {
+        StringBuilder text = new StringBuilder();
+        text.append(mill.digest()).append(' ').append(mill.pond(0)).append(' ').append(mill.pond(3)).append(' ');
+        text.append(mill.sea(0)).append(' ').append(mill.sea(49)).append(' ').append(mill.wouldLevel(50));
+        return text.toString();
+    }
+
     private static void addPairs(StringBuilder text, TideMill mill) {
-        for (int pair = 0; pair < mill.many(6); pair++) {
+        int pairs = mill.many(6);
+        for (int pair = 0; pair < pairs; pair++) {
             for (int what = 0; what <= 2; what++) {
                 text.append(mill.ofPair(pair, what)).append(' ');
             }
@@ -34,7 +44,8 @@ final class Portrait {
     }
 
     private static void addLots(StringBuilder text, TideMill mill) {
-        for (int lot = 0; lot < mill.many(7); lot++) {
+        int lots = mill.many(7);
+        for (int lot = 0; lot < lots; lot++) {
             for (int what = 0; what <= 5; what++) {
                 text.append(mill.ofLot(lot, what)).append(' ');
             }

@@ -2,9 +2,19 @@ import java.lang.management.ManagementFactory;
 
 /** All calls of a run live in one room: a call makes no objects, but for an exception that it throws. */
 public final class RoomTest {
-    private static final int CALLS = 512;
+    private static final int ROUNDS = 56;
 
     public static void main(String[] args) {
+        callAll(busy());
+        TideMill mill = busy();
+        long before = made();
+        callAll(mill);
+        long bytes = made() - before;
+        Check.same("bytes that " + 8 * ROUNDS + " calls make are a few (" + bytes + ")", bytes < 65536, true);
+        Check.finish("RoomTest");
+    }
+
+    private static TideMill busy() {
         TideMill mill = Mills.flooded();
         for (int pair = 0; pair < 3; pair++) {
             mill.pair();
@@ -16,16 +26,11 @@ public final class RoomTest {
             mill.feed(pair, pair);
         }
         mill.sluice(1);
-        callAll(mill);
-        long before = made();
-        callAll(mill);
-        long bytes = made() - before;
-        Check.same("bytes that " + CALLS + " calls make are a few (" + bytes + ")", bytes < 65536, true);
-        Check.finish("RoomTest");
+        return mill;
     }
 
     private static void callAll(TideMill mill) {
-        for (int call = 0; call < CALLS / 8; call++) {
+        for (int call = 0; call < ROUNDS; call++) {
             mill.digest();
             mill.best(48);
             mill.wouldDone(call % 10);

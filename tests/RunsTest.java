@@ -1,7 +1,8 @@
 /** All promises: long runs of calls, right and wrong ones, on a TideMill and on the Model at once. */
 public final class RunsTest {
-    private static final int RUNS = 400;
-    private static final int CALLS = 200;
+    private static final int RUNS = 2000;
+    // Three calls each: with those of begin() and compareAll(), fewer than the 512 that are promised.
+    private static final int STEPS = 110;
     private static final int[] WILD = {Integer.MIN_VALUE, -1000, -9, -2, -1, 61, 101, 1001, 5001, Integer.MAX_VALUE};
 
     private interface Ask {
@@ -36,8 +37,9 @@ public final class RunsTest {
 
     private void run(int kind) {
         begin(kind);
-        for (int call = 0; call < CALLS; call++) {
+        for (int step = 0; step < STEPS; step++) {
             tell(kind);
+            ask();
             ask();
         }
         compareAll();
@@ -132,24 +134,50 @@ public final class RunsTest {
     }
 
     private void ask() {
-        int what = about(16);
         int pair = about(2);
         int lot = about(9);
-        both("many(" + what + ")", () -> mill.many(what), () -> model.many(what));
-        both("pond(" + what + ")", () -> mill.pond(what), () -> model.pond(what));
-        both("ofPair(" + pair + ", " + what % 4 + ")",
-                () -> mill.ofPair(pair, what % 4), () -> model.ofPair(pair, what % 4));
-        both("dull(" + pair + ")", () -> mill.dull(pair), () -> model.dull(pair));
-        both("ofLot(" + lot + ", " + what % 7 + ")",
-                () -> mill.ofLot(lot, what % 7), () -> model.ofLot(lot, what % 7));
-        both("left(" + lot + ")", () -> mill.left(lot), () -> model.left(lot));
-        int ahead = about(1000);
-        both("sea(" + ahead + ")", () -> mill.sea(ahead), () -> model.sea(ahead));
-        int ticks = about(100);
-        both("wouldLevel(" + ticks + ")", () -> mill.wouldLevel(ticks), () -> model.wouldLevel(ticks));
-        both("wouldDone(" + lot + ")", () -> mill.wouldDone(lot), () -> model.wouldDone(lot));
-        both("best(" + ticks % 60 + ")", () -> mill.best(ticks % 60), () -> model.best(ticks % 60));
-        both("high()", () -> mill.high(), () -> model.high());
+        switch (below(11)) {
+            case 0:
+                int ofMany = about(16);
+                both("many(" + ofMany + ")", () -> mill.many(ofMany), () -> model.many(ofMany));
+                break;
+            case 1:
+                int ofPond = about(5);
+                both("pond(" + ofPond + ")", () -> mill.pond(ofPond), () -> model.pond(ofPond));
+                break;
+            case 2:
+                int ofPair = about(2);
+                both("ofPair(" + pair + ", " + ofPair + ")",
+                        () -> mill.ofPair(pair, ofPair), () -> model.ofPair(pair, ofPair));
+                break;
+            case 3:
+                both("dull(" + pair + ")", () -> mill.dull(pair), () -> model.dull(pair));
+                break;
+            case 4:
+                int ofLot = about(5);
+                both("ofLot(" + lot + ", " + ofLot + ")", () -> mill.ofLot(lot, ofLot), () -> model.ofLot(lot, ofLot));
+                break;
+            case 5:
+                both("left(" + lot + ")", () -> mill.left(lot), () -> model.left(lot));
+                break;
+            case 6:
+                int ahead = about(1000);
+                both("sea(" + ahead + ")", () -> mill.sea(ahead), () -> model.sea(ahead));
+                break;
+            case 7:
+                int ticks = about(100);
+                both("wouldLevel(" + ticks + ")", () -> mill.wouldLevel(ticks), () -> model.wouldLevel(ticks));
+                break;
+            case 8:
+                both("wouldDone(" + lot + ")", () -> mill.wouldDone(lot), () -> model.wouldDone(lot));
+                break;
+            case 9:
+                int span = about(48);
+                both("best(" + span + ")", () -> mill.best(span), () -> model.best(span));
+                break;
+            default:
+                both("high()", () -> mill.high(), () -> model.high());
+        }
     }
 
     private void compareAll() {

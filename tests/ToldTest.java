@@ -129,8 +129,8 @@ public final class ToldTest {
 
     private static void hours() {
         int[][] hours = {{0, 47}, {5, 5}, {0, 0}, {47, 47}, {10, 20}, {20, 10}, {47, 0}, {1, 0}, {24, 23}};
-        TideMill mill = new TideMill();
         for (int tick = 0; tick < 49; tick++) {
+            TideMill mill = Mills.at(tick);
             for (int[] pair : hours) {
                 int hour = tick % 48;
                 boolean isIn = false;
@@ -144,8 +144,8 @@ public final class ToldTest {
                 Check.same(what, mill.hours(pair[0], pair[1]), isIn);
                 Check.same(what + ", many(14)", mill.many(14), isIn ? 1 : 0);
             }
-            mill.pass(1);
         }
+        TideMill mill = Mills.at(49);
         mill.hours(3, 4);
         for (int wrong : new int[] {-1, 48, LEAST, MOST}) {
             Check.raises(mill, "7: hours(" + wrong + ", 0)", ARGUMENT, () -> mill.hours(wrong, 0));

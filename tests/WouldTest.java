@@ -124,11 +124,17 @@ public final class WouldTest {
 
     /** On which TICK the LOT of lazy() is DONE, found by passing alone. */
     private static int tickOfLazy() {
-        TideMill mill = lazy();
-        while (mill.ofLot(0, 4) != 2 && mill.many(0) < 5000) {
-            mill.pass(1);
+        int hundreds = 0;
+        for (TideMill mill = lazy(); hundreds < 50 && mill.pass(100) == 0; ) {
+            hundreds++;
         }
-        return mill.many(0);
+        TideMill mill = lazy();
+        Mills.passMany(mill, hundreds * 100);
+        int tick = hundreds * 100 + 1;
+        while (tick < 5000 && mill.pass(1) == 0) {
+            tick++;
+        }
+        return tick;
     }
 
     private static void best() {
@@ -207,14 +213,14 @@ public final class WouldTest {
 
     private static void digest() {
         TideMill mill = busy();
-        for (int i = 0; i < 40; i++) {
+        for (int i = 0; i < 4; i++) {
             Check.same("29: digest()", mill.digest(), digestOf(mill));
             Check.same("29: digest() again", mill.digest(), mill.digest());
             if (mill.many(9) > 0 && mill.ofLot(0, 4) == 2) {
                 mill.give(0);
             }
             mill.scour(i % 3 == 0);
-            mill.pass(1 + i);
+            mill.pass(1 + 9 * i);
         }
         TideMill low = new TideMill();
         low.scour(true);

@@ -371,7 +371,7 @@ public final class TideMill {
             case 2:
                 return mill.sea.ageOn(mill.sea.tick);
             case 3:
-                return mill.sea.springOn(mill.sea.tick);
+                return mill.sea.springOf(mill.sea.ageOn(mill.sea.tick));
             case 4:
                 return mill.pond.gates;
             case 5:
@@ -436,7 +436,9 @@ public final class TideMill {
     private double leftWith(int sluice, int ticks) {
         trial.copyFrom(mill);
         trial.pond.sluice = sluice;
-        trial.letGoBy(ticks);
+        for (int gone = 0; gone < ticks; gone++) {
+            trial.goBy();
+        }
         return trial.lots.allLeft();
     }
 
@@ -521,14 +523,13 @@ public final class TideMill {
             return (moon + when / DAY_TICKS) % MOON_DAYS;
         }
 
-        int springOn(int when) {
-            int age = ageOn(when);
+        int springOf(int age) {
             int fromHalf = Math.abs(age - MOON_DAYS / 2);
             return Math.min(Math.min(age, MOON_DAYS - age), fromHalf);
         }
 
         double rangeOn(int when) {
-            return 4.0 - 0.25 * springOn(when);
+            return 4.0 - 0.25 * springOf(ageOn(when));
         }
 
         // LANGUAGE.md leaves no % on doubles: in quarters the period of 24.75 is whole, and nothing is lost.
@@ -737,8 +738,11 @@ public final class TideMill {
             for (int pair = 0; pair < count; pair++) {
                 if (dressing[pair] > 0) {
                     dressOn(pair);
-                } else if (isAwake) {
-                    rest -= work(pair, rest, lots);
+                } else if (isAwake && lots.has(lot[pair])) {
+                    rest -= grind(pair, rest, lots);
+                } else if (isAwake && rest > 1.0) {
+                    spark(pair);
+                    rest -= 1.0;
                 }
             }
         }
@@ -750,19 +754,12 @@ public final class TideMill {
             }
         }
 
-        /** Returns how much of the FORCE the PAIR takes. */
-        private double work(int pair, double force, Lots lots) {
-            if (lots.has(lot[pair])) {
-                return grind(pair, force, lots);
-            }
-            if (force > 1.0) {
-                sparks[pair]++;
-                blunt(pair, 0.125f);
-                return 1.0;
-            }
-            return 0.0;
+        private void spark(int pair) {
+            sparks[pair]++;
+            blunt(pair, 0.125f);
         }
 
+        /** Returns how much of the FORCE the PAIR gets. */
         private double grind(int pair, double force, Lots lots) {
             int ground = lot[pair];
             double need = 1.0 + (double) dull[pair];
